@@ -212,6 +212,7 @@ public final class OldBottles {
             return NO;
         }
         if (isBarred(b)) {
+            // 0 by 1
             return part;
         }
         int doubt = judged(b, DOUBT_CLAUSE);
@@ -297,10 +298,12 @@ public final class OldBottles {
             return BAD;
         }
         int some = weighDoubts();
-        int best = 0, bestDoubt = 0, bestCost = 0;
+        int best = 0, bestDoubt = 0, bestCost = 0, doubt = 0, cost = 0;
         for (int bits = 1; bits < 1 << some; bits++) {
-            int doubt = sumOf(doubts, bits);
-            int cost = sumOf(costs, bits);
+            // counting up by 1 turns one bit on and all below it off: both sums follow without being made anew
+            int on = lowestBit(bits);
+            doubt += doubts[on] - sumBelow(doubts, on);
+            cost += costs[on] - sumBelow(costs, on);
             if (cost <= coin && (doubt > bestDoubt || doubt == bestDoubt && cost < bestCost)) {
                 best = bits;
                 bestDoubt = doubt;
@@ -654,12 +657,18 @@ public final class OldBottles {
         return some;
     }
 
-    private static int sumOf(int[] row, int bits) {
+    /** The place of the lowest bit among those of BOTTLES that can be opened. */
+    private static int lowestBit(int bits) {
+        int at = 0;
+        for (; at < OPENABLE - 1 && (bits >> at & 1) == 0; at++) {
+        }
+        return at;
+    }
+
+    private static int sumBelow(int[] row, int end) {
         int sum = 0;
-        for (int i = 0; i < row.length && bits >> i != 0; i++) {
-            if ((bits >> i & 1) == 1) {
-                sum += row[i];
-            }
+        for (int i = 0; i < end && i < row.length; i++) {
+            sum += row[i];
         }
         return sum;
     }

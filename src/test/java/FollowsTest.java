@@ -108,6 +108,10 @@ public final class FollowsTest {
         DUE.is("16 none", x.worst(), OldBottles.NONE);
         x.sale(0, 70, 1, 1);
         DUE.is("16 share 0", x.worst(), 7);
+        OldBottles y = traded();
+        y.sale(0, 10, 1, 1);
+        y.sale(0, 1, 1, 1);
+        DUE.is("16 hand 0", y.worst(), 0);
         x.sale(0, 40, 1, 1);
         DUE.is("16 the least", x.worst(), 4);
         x.sale(1, 70, 1, 1);
@@ -173,6 +177,11 @@ public final class FollowsTest {
         }
         DUE.is("18 full", x.said(0, 0, 0, 0), OldBottles.FULL);
         DUE.is("18 bad ahead of full", x.said(0, 0, 2, 0), OldBottles.BAD);
+        x.said(2, 0, 0, 1);
+        DUE.is("19 right", x.tongue(2, 0), 1);
+        x.said(2, 0, 1, 0);
+        DUE.is("19 taken in", x.tongue(2, 2), 1);
+        DUE.is("19 of how many", x.tongue(2, 3), 1);
         int[] zero = {6, 12, 0, 0};
         for (int kind = 0; kind < 6; kind++) {
             x.said(5, kind, 1, 0);
@@ -318,6 +327,11 @@ public final class FollowsTest {
         x.book(1, 2, 0, 99);
         x.test(1, 0);
         DUE.is("24 barred by none made alone", x.saw(2), 0);
+        x.book(0, 1, 0, 0);
+        DUE.is("24 by the glass", x.saw(0), 1);
+        x.book(0, 1, 0, 99);
+        x.book(2, 3, 0, 0);
+        DUE.is("24 by the cork", x.saw(0), 1);
         DUE.is("24 bad", x.saw(3), OldBottles.BAD);
         DUE.is("24 bad", x.saw(-1), OldBottles.BAD);
         DUE.is("24 bad", x.saw(BIG), OldBottles.BAD);
@@ -342,7 +356,7 @@ public final class FollowsTest {
             x.test(0, 41);
             x.test(2, 1);
             x.book(0, 1, 90, 99);
-            x.book(2, 3, 90, 99);
+            x.book(2, 3, 0, 9);
             x.force(0);
             DUE.is("26 changed", x.told(0, 4), 1);
             DUE.is("26 sales", x.back(), 2);
@@ -397,6 +411,15 @@ public final class FollowsTest {
         }
         x.book(0, 1, 0, 0);
         DUE.is("27 barred", x.count(6), 3);
+        for (int i = 3; i < 24; i++) {
+            x.bottle(0, 0, 0);
+        }
+        DUE.is("27 24 bottles, barred", x.count(6), 3);
+        DUE.is("27 24 bottles, sold", x.count(7), 2);
+        DUE.is("23 24 bottles", x.falls(0, 100), 21 * 2);
+        x.sale(23, 12, 1, 1);
+        DUE.is("13 24 bottles", x.left(0, 2), 2);
+        DUE.is("27 the last one sold", x.count(7), 3);
         DUE.is("27 bad", x.count(8), OldBottles.BAD);
         DUE.is("27 bad", x.count(-1), OldBottles.BAD);
         DUE.is("27 bad", x.count(BIG), OldBottles.BAD);

@@ -27,6 +27,13 @@ public final class HostTest {
         DUE.is("28 missing", x.cell(3, 0, 0), -11);
         DUE.is("28 gone", x.sheet(1, -1, 0), 1);
         DUE.is("28 gone", x.cell(1, 0, 0), -11);
+        x.wine(1, 0, 0, 0);
+        x.bottle(0, 0, 0);
+        x.sheet(1, 2, 4);
+        x.cell(1, 1, 12);
+        DUE.is("28 filled", x.sales(1, 2, 0, 1), 1);
+        x.sheet(1, 2, 4);
+        DUE.is("28 all 0 anew: hands that are alike", x.sales(1, 2, 0, 1), 0);
         DUE.is("28 refused: as it was", x.sheet(2, 0, -1), -14);
         DUE.is("28 refused: as it was", x.sales(2, 2, 0, 0), 0);
     }

@@ -13,11 +13,15 @@ public final class StormTest {
     private final Model m = new Model();
     /** How often the arguments of a call are strange ones: one in so many. */
     private final int calm;
+    /** How many calls make wines, and till which one calls make bottles, so that the others have something to speak of. */
+    private final int wineCalls, bottleCalls;
     private String call;
 
     private StormTest(long seed) {
         random = new Random(seed);
         calm = seed % 10 == 0 ? 2 : 60;
+        wineCalls = seed % 3 == 0 ? 12 : 3;
+        bottleCalls = seed % 4 == 0 ? 40 : 9;
     }
 
     public static void main(String[] args) {
@@ -34,8 +38,7 @@ public final class StormTest {
     private int run(int seed) {
         for (int i = 0; i < CALLS; i++) {
             int sort = random.nextInt(34);
-            // wines and bottles early, so that the later calls have something to speak of
-            long[] both = i < 3 ? wine() : i < 9 ? bottle() : random.nextInt(600) == 0 ? back() : any(sort);
+            long[] both = i < wineCalls ? wine() : i < bottleCalls ? bottle() : random.nextInt(600) == 0 ? back() : any(sort);
             if (both[0] != both[1]) {
                 System.out.println("run " + seed + " call " + i + ": " + call + " answered " + both[0] + ", due is " + both[1]);
                 return 1;

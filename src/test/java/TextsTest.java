@@ -107,6 +107,9 @@ public final class TextsTest {
         price("0 or 0", 0);
         price("7 and 5", 1);
         price("7 and 0", 0);
+        price("1 and 1", 1);
+        price("0 and 1", 0);
+        price("0 or 1", 1);
         price("1 or 1 and 0", 1);
         price("(1 or 1) and 0", 0);
         price("0 and 0 or 5", 1);
@@ -170,6 +173,16 @@ public final class TextsTest {
         fault("doubt 1 2;", 8);
         fault("doubt bar;", 6);
         fault("doubt barsodd;", 6);
+        fault("doubt barsz;", 6);
+        fault("doubt abars;", 6);
+        fault("doubt zbars;", 6);
+        fault("doubt bars9z;", 10);
+        fault("doubt 1`;", 7);
+        fault("doubt 1{;", 7);
+        fault("doubt 1/;", 7);
+        fault("doubt 1:;", 7);
+        fault("doubt o;", 6);
+        fault("doubt no;", 6);
         fault("doubt price;", 6);
         fault("doubt or 1;", 6);
         fault("doubt 1 or;", 10);

@@ -183,7 +183,12 @@ public final class WinesTest {
                 DUE.is("8 kind " + kind + " shows " + which, x.shows(kind, which), due[kind][which]);
             }
         }
-        int[][] bad = {{-1, 0}, {6, 0}, {0, -1}, {0, 6}, {BIG, BIG}, {SMALL, 0}};
+        x.bottle(5, 0, 333);
+        int[] never = {3, 3, 3, 1, 11, 90};
+        for (int which = 0; which < 6; which++) {
+            DUE.is("8 never shows " + which, x.shows(6, which), never[which]);
+        }
+        int[][] bad = {{-1, 0}, {7, 0}, {0, -1}, {0, 6}, {BIG, BIG}, {SMALL, 0}};
         for (int[] b : bad) {
             DUE.is("8 bad", x.shows(b[0], b[1]), OldBottles.BAD);
         }
