@@ -137,7 +137,7 @@ public final class OldBottles {
         if (b == null || !isBelow(which, PARTS + 3)) {
             return BAD;
         }
-        return which < PARTS ? b.shown(which) : b.tasted(which - PARTS);
+        return which < PARTS ? partOf(b.shown, which) : b.tasted(which - PARTS);
     }
 
     // ---- sales, texts
@@ -355,7 +355,7 @@ public final class OldBottles {
         }
         Bottle b = bottleAt(ledger.bottle[sale]);
         for (int part = 0; part < PARTS; part++) {
-            if (b != null && bars(b, part) && pages.testedFrom[part] <= ledger.year[sale]) {
+            if (b != null && pages.bars(b, part) && pages.testedFrom[part] <= ledger.year[sale]) {
                 return 1;
             }
         }
@@ -545,14 +545,10 @@ public final class OldBottles {
         return isBelow(i, SHEETS) ? sheets[i] : null;
     }
 
-    private boolean bars(Bottle b, int part) {
-        return !pages.isUsed(part, b.shown(part), b.label.year);
-    }
-
     private int barBits(Bottle b) {
         int bits = 0;
         for (int part = 0; part < PARTS; part++) {
-            if (bars(b, part)) {
+            if (pages.bars(b, part)) {
                 bits |= 1 << part;
             }
         }
@@ -562,7 +558,7 @@ public final class OldBottles {
     private int oddBits(Bottle b) {
         int bits = 0;
         for (int part = 0; part < PARTS; part++) {
-            if (b.shown(part) != partOf(b.label.parts, part) && !bars(b, part)) {
+            if (partOf(b.shown, part) != partOf(b.label.parts, part) && !pages.bars(b, part)) {
                 bits |= 1 << part;
             }
         }
@@ -726,7 +722,7 @@ public final class OldBottles {
         }
 
         static int place(int part, int which) {
-            return isBelow(part, PARTS) && isBelow(which, USES) ? part * USES + which : NONE;
+            return part >= 0 && part < PARTS && which >= 0 && which < USES ? part * USES + which : NONE;
         }
 
         void write(int part, int which, int first, int last) {
@@ -737,9 +733,9 @@ public final class OldBottles {
             }
         }
 
-        boolean isUsed(int part, int which, int year) {
-            int at = place(part, which);
-            return at != NONE && from[at] <= year && year <= till[at];
+        boolean bars(Bottle b, int part) {
+            int at = place(part, partOf(b.shown, part));
+            return at == NONE || b.label.year < from[at] || b.label.year > till[at];
         }
 
         void become(Book other) {
@@ -753,7 +749,8 @@ public final class OldBottles {
         final int kind;
         final Wine label;
         final Wine inside;
-        final int own;
+        /** What its PARTS show, as in PARTS of a WINE: neither its own nor its WINE's ever change. */
+        final int shown;
         int timesSold;
         int owner;
         int gaps;
@@ -764,13 +761,17 @@ public final class OldBottles {
             this.kind = kind;
             this.label = label;
             this.inside = inside;
-            this.own = own;
+            this.shown = shownParts(kind, label.parts, own);
             this.owner = NONE;
         }
 
-        int shown(int part) {
+        private static int shownParts(int kind, int ofWine, int own) {
             int asWine = isUpTo(kind, LAST_KIND) ? SHOWN_AS_WINE[kind] : 0;
-            return partOf((asWine >> part & 1) == 1 ? label.parts : own, part);
+            int shown = 0;
+            for (int part = 0; part < PARTS; part++) {
+                shown = shown * 10 + partOf((asWine >> part & 1) == 1 ? ofWine : own, part);
+            }
+            return shown;
         }
 
         int tasted(int k) {
