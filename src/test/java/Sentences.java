@@ -14,6 +14,8 @@ final class Sentences {
         long with(int v);
     }
 
+    /** More wrong answers of one sentence are counted, but not told. */
+    private static final int TOLD = 5;
     private static final Path DOCUMENT = Path.of("../shared/DOC.md");
 
     private final String test;
@@ -22,6 +24,7 @@ final class Sentences {
     private int sentences;
     private int answers;
     private int wrong;
+    private int wrongOfThis;
 
     Sentences(String test) {
         this.test = test;
@@ -44,6 +47,7 @@ final class Sentences {
     /** What the words say, as asked of a new object; the words must stand in the document just so. */
     void hold(String theWords, Test asked) {
         sentences++;
+        wrongOfThis = 0;
         words = theWords;
         if (document != null && !document.contains(bare(theWords))) {
             wrong++;
@@ -56,7 +60,10 @@ final class Sentences {
         answers++;
         if (got != want) {
             wrong++;
-            System.out.println(test + ": \"" + words + "\":" + lines() + " answered " + got + ", due is " + want);
+            wrongOfThis++;
+            if (wrongOfThis <= TOLD) {
+                System.out.println(test + ": \"" + words + "\":" + lines() + " answered " + got + ", due is " + want);
+            }
         }
     }
 
@@ -64,7 +71,7 @@ final class Sentences {
     void refused(long want, int[] numbers, Call call) {
         for (int v : numbers) {
             long got = call.with(v);
-            if (got != want) {
+            if (got != want && wrongOfThis < TOLD) {
                 System.out.print("of " + v + ": ");
             }
             due(got, want);
