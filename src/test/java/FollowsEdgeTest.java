@@ -25,6 +25,7 @@ public final class FollowsEdgeTest {
         image();
         back();
         backOfSales();
+        backOfChains();
         backLeaves();
         count();
         S.end();
@@ -353,6 +354,24 @@ public final class FollowsEdgeTest {
             due(x.mix(3, 2, 4, 0), 7);
             due(x.mix(3, 2, 5, 0), 4);
         });
+        S.hold("k tenths (0 .. 10) of a and the rest of b", x -> {
+            // 11 tenths, or 1 less than none, would be nearer
+            x.wine(1, 1, 0, 500000);
+            x.wine(1, 1, 0, 0);
+            x.wine(1, 1, 0, 550000);
+            x.wine(1, 1, 0, 990000);
+            due(x.mix(0, 1, 2, 0), 10);
+            due(x.mix(0, 1, 2, 1), 5);
+            due(x.mix(1, 0, 2, 0), 0);
+            due(x.mix(1, 0, 2, 1), 5);
+            due(x.mix(0, 1, 3, 0), 10);
+            due(x.mix(0, 1, 3, 1), 49);
+            due(x.mix(2, 0, 1, 0), 0);
+            due(x.mix(2, 0, 1, 1), 50);
+            // 50.5 at k 9 is cut: the least of like ones
+            due(x.mix(0, 2, 1, 0), 9);
+            due(x.mix(0, 2, 1, 1), 50);
+        });
         S.hold("FAR from a WINE: the sum of differences of the three", x -> {
             x.wine(1, 1, 0, 500000);
             x.wine(1, 1, 0, 500000);
@@ -557,9 +576,11 @@ public final class FollowsEdgeTest {
             x.book(0, 1, 0, 0);
             due(x.told(9, 8), 30);
             due(x.opened(11, 0), 0);
-            due(x.opened(12, 0), 512);
-            due(x.opened(12, 1), 30);
-            due(x.opened(12, 2), 12);
+            for (int coin : new int[] {12, 24, 999}) {
+                due(x.opened(coin, 0), 512);
+                due(x.opened(coin, 1), 30);
+                due(x.opened(coin, 2), 12);
+            }
         });
     }
 
@@ -1063,6 +1084,57 @@ public final class FollowsEdgeTest {
             due(x.told(3, 5), 0);
             due(x.back(), 1);
             due(x.chain(3), 0);
+        });
+    }
+
+    private static void backOfChains() {
+        S.hold("how many SALES", x -> {
+            // SALES that follow one another do so when some behind them are laid back
+            traded(x);
+            int[] hands = {12, 23, 34, 41};
+            for (int h : hands) {
+                x.sale(0, h, 1, 1);
+                x.sale(1, h == 34 ? 35 : h, 1, 1);
+            }
+            due(x.image(), 8);
+            x.sale(0, 56, 1, 1);
+            x.sale(1, 56, 1, 1);
+            due(x.back(), 8);
+            due(x.told(0, 5), 0);
+            due(x.chain(0), 4);
+            due(x.told(0, 7), 1);
+            due(x.told(1, 5), 1);
+            due(x.chain(1), 1);
+            x.sale(0, 12, 1, 1);
+            due(x.chain(0), 5);
+        });
+        S.hold("how many SALES", x -> {
+            // all are full: 8 WINES, 24 BOTTLES, 40 SALES
+            for (int i = 0; i < 8; i++) {
+                x.wine(50, 9, 0, 0);
+                x.drunk(i, i);
+            }
+            for (int i = 0; i < 24; i++) {
+                x.bottle(1, 11 * (i / 3), 0);
+            }
+            for (int i = 0; i < 40; i++) {
+                x.sale(i % 24, i < 24 ? 12 : 23, 1, i);
+            }
+            due(x.image(), 40);
+            for (int i = 0; i < 8; i++) {
+                x.drunk(i, 9);
+            }
+            due(x.back(), 40);
+            for (int i = 0; i < 24; i++) {
+                due(x.told(i, 5), 0);
+                due(x.chain(i), i < 16 ? 2 : 1);
+                due(x.told(i, 7), i < 16 ? 3 : 2);
+            }
+            for (int i = 0; i < 8; i++) {
+                due(x.drunk(i, 0), i);
+                due(x.left(i, 2), 3);
+            }
+            due(x.sale(23, 23, 1, 99), FULL);
         });
     }
 

@@ -13,6 +13,7 @@ public final class TextsEdgeTest {
         feed();
         feedBytes();
         text();
+        longTexts();
         fullTexts();
         tokens();
         grammar();
@@ -281,6 +282,59 @@ public final class TextsEdgeTest {
             due(x.text(), 2);
             due(Due.text(x, wide.substring(1) + ";"), -259);
             due(Due.text(x, wide.substring(0, 159)), -259);
+        });
+    }
+
+    private static void longTexts() {
+        S.hold("A TEXT is read from THE TAPE (160 bytes at most).", x -> {
+            // five of 160 bytes, as full of ONES as can be, each with numbers of its own
+            x.wine(1, 1, 0, 0);
+            x.bottle(0, 0, 0);
+            for (int i = 1; i <= 5; i++) {
+                String text = "doubt " + i + "+0".repeat(23) + ";price 1" + i + "+0".repeat(22) + ";open 2" + i;
+                text = text + "-0".repeat((159 - text.length()) / 2);
+                text = text + " ".repeat(159 - text.length()) + ";";
+                due(Due.feed(x, text), 160);
+                due(x.text(), i);
+            }
+            for (int i = 5; i > 0; i--) {
+                x.force(i);
+                due(x.told(0, 8), i);
+                due(x.told(0, 9), 10 + i);
+                due(x.told(0, 10), 20 + i);
+            }
+        });
+        S.hold("which is empty then (by a FAULT, too)", x -> {
+            // what was read of TEXTS that can't stand leaves nothing behind in those that come after
+            x.wine(1, 1, 0, 0);
+            x.bottle(0, 0, 0);
+            String text = "doubt 7" + "*7".repeat(70) + ";";
+            for (int i = 0; i < 8; i++) {
+                due(Due.text(x, text), -100 - text.length());
+            }
+            due(Due.text(x, "doubt 1+2;price 2*3;open 9-5;"), 1);
+            x.force(1);
+            due(x.told(0, 8), 3);
+            due(x.told(0, 9), 6);
+            due(x.told(0, 10), 4);
+        });
+        S.hold("A TEXT is read from THE TAPE (160 bytes at most).", x -> {
+            // TOKENS that end where THE TAPE does, whole ones and such as only begin like one
+            String[] ends = {"bar", "bars", "d", "doub", "sol", "sold", "o", "ope", "no", "an", "a", "123", "1234", "12345"};
+            for (String e : ends) {
+                String text = "doubt" + " ".repeat(155 - e.length()) + e;
+                boolean stands = e.equals("bars") || e.equals("sold") || e.equals("123") || e.equals("1234");
+                fault(text, stands ? 160 : 160 - e.length());
+                fault(" ".repeat(160 - e.length()) + e, 160 - e.length());
+            }
+            fault(" ".repeat(155) + "doubt", 160);
+            fault("doubt " + "(".repeat(154), 11);
+            fault("doubt " + "-".repeat(154), 11);
+            fault("doubt 1" + ")".repeat(153), 7);
+            fault("doubt " + "not ".repeat(38) + "1 ", 26);
+            fault("x".repeat(160), 0);
+            fault("1".repeat(160), 0);
+            fault("doubt " + "1".repeat(154), 6);
         });
     }
 

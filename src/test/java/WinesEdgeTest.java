@@ -270,6 +270,9 @@ public final class WinesEdgeTest {
             x.book(1, 0, 20, 20);
             due(x.told(0, 2), 2);
             due(x.told(1, 2), 0);
+            x.book(1, 0, 10, 10);
+            due(x.told(0, 2), 0);
+            due(x.told(1, 2), 2);
         });
     }
 
