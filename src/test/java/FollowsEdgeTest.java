@@ -498,7 +498,8 @@ public final class FollowsEdgeTest {
                 due(x.tongue(kind, 1), 2);
             }
         });
-        S.hold("of those TOLD, of which WITHIN is another WINE than they are said to be", x -> {
+        S.hold("KNOWS: of those not TOLD for how many it said what is WITHIN; TAKES IN: of those TOLD, of which WITHIN is"
+                + " another WINE than they are said to be, for how many it said what they are said to be.", x -> {
             x.wine(1, 1, 0, 0);
             x.wine(1, 1, 0, 0);
             x.wine(1, 1, 0, 0);
@@ -539,7 +540,8 @@ public final class FollowsEdgeTest {
             S.refused(BAD, Sentences.beyond(0, 2), v -> x.opened(0, v));
             S.refused(BAD, Sentences.beyond(0, 2), v -> x.opened(999, v));
         });
-        S.hold("of the first 10 BOTTLES those that are doubted most together", x -> {
+        S.hold("of the first 10 BOTTLES those that are doubted most together (doubt of each; opening costs open of each;"
+                + " bits)", x -> {
             x.wine(50, 9, 0, 0);
             rule(x, "99", "1", "1");
             for (int n = 1; n <= 12; n++) {

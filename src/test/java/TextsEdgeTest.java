@@ -613,6 +613,12 @@ public final class TextsEdgeTest {
             due(price("-(" + GREATEST + ")-2=" + GREATEST), 1);
             due(price("-(" + GREATEST + ")-2"), 9999);
             due(price("-(" + GREATEST + "+1)=" + GREATEST + "+1"), 1);
+            // what is compared is not taken from one another
+            due(price(GREATEST + "<-2"), 0);
+            due(price("-2<" + GREATEST), 1);
+            due(price(GREATEST + "+1<2"), 1);
+            due(price("2<" + GREATEST + "+1"), 0);
+            due(price(GREATEST + "+1=" + GREATEST), 0);
             due(price("256*256*256*256"), 0);
             due(price("256*256*256*256=0"), 1);
             due(price("256*256*256*256+7"), 7);
@@ -723,6 +729,16 @@ public final class TextsEdgeTest {
             fault("doubt ((((not 1+(1)))));", 16);
             fault("doubt ((((not 1<-1))));", 16);
             good("((((not 1 or -1))))");
+            // what has ended is open no more, under one that still is
+            good("(not 1 or not 1 or not 1 or not 1 or not 1 or not 1)");
+            good("((1)+(1)+(1)+(1)+(1)+(1)+(1))");
+            good("(-1-1-(-1)+-1*-1-(-1)+-1*-1)");
+            good("not(1)+(1)+(1)+(1)+(1)+(1)+(1)");
+            good("not -1+-1+-1+-1+-1+-1+-1");
+            good("-(-1+-1+-1+-1+-1+-1+-1)");
+            good("-(not 1 and not 1 and not 1 and not 1)");
+            good("((not(1)and not(1)and not(1)or not(1)))");
+            good("((-(1)-(1)+-(1)-(1)*-(1)+-(1)))");
             good("((((not 1 and(1)))))");
         });
     }

@@ -246,7 +246,8 @@ public final class WinesEdgeTest {
     }
 
     private static void bookYears() {
-        S.hold("A PART BARS a BOTTLE, if what it SHOWS was not used in the YEAR of the WINE that it is said to be", x -> {
+        S.hold("A PART BARS a BOTTLE, if what it SHOWS was not used in the YEAR of the WINE that it is said to be"
+                + " (by THE BOOK)", x -> {
             int[] years = {0, 1, 50, 98, 99};
             for (int i = 0; i < years.length; i++) {
                 x.wine(years[i], 9, 0, 0);
@@ -408,7 +409,7 @@ public final class WinesEdgeTest {
             x.sale(0, 89, 0, 0);
             due(x.told(0, 7), 9);
         });
-        S.hold("(its first SALE is none)", x -> {
+        S.hold("GAP of a BOTTLE: SALES of it at which who sold isn't who bought it last (its first SALE is none).", x -> {
             x.wine(1, 9, 0, 0);
             x.bottle(0, 0, 0);
             x.bottle(0, 0, 0);
