@@ -8,6 +8,7 @@ public final class FollowsEdgeTest {
         left();
         odds();
         oddsOfKinds();
+        oddsOfDoubts();
         sources();
         worst();
         worstOfLikeOnes();
@@ -162,6 +163,28 @@ public final class FollowsEdgeTest {
                 due(x.odds(0, 0) * (t + f), x.odds(0, 1) * t);
                 for (int d = 2; d < 20; d++) {
                     due(x.odds(0, 0) % d == 0 && x.odds(0, 1) % d == 0 ? d : 1, 1);
+                }
+            }
+        });
+    }
+
+    private static void oddsOfDoubts() {
+        S.hold("ODDS that a BOTTLE is TRUE: t by (t and f)", none -> {
+            // each KIND at each doubt, which is the YEAR of its WINE; f is the greater one from some 70 on
+            int[] own = {2, 1, 2, 1, 1, 1};
+            for (int doubt = 0; doubt < 100; doubt++) {
+                OldBottles x = new OldBottles();
+                x.wine(doubt, 9, 0, 0);
+                rule(x, "year", "1", "1");
+                for (int kind = 0; kind < 6; kind++) {
+                    x.bottle(kind, 0, 0);
+                    int t = 5 * (100 - doubt), all = t + own[kind] * (doubt + 1);
+                    int common = t;
+                    while (t % common != 0 || all % common != 0) {
+                        common--;
+                    }
+                    due(x.odds(kind, 0), t / common);
+                    due(x.odds(kind, 1), all / common);
                 }
             }
         });

@@ -21,6 +21,7 @@ public final class TextsEdgeTest {
         truths();
         wrapping();
         faults();
+        places();
         openOnes();
         names();
         clauses();
@@ -678,6 +679,83 @@ public final class TextsEdgeTest {
                 fault(name + " 1;", 0);
                 fault("doubt 1 " + name + " 2;", 8);
             }
+        });
+    }
+
+    /** Of all TOKENS (and three that are none) just those may stand behind a text; the others are a FAULT there. */
+    private static void stand(String behind, String those) {
+        String all = "doubt price open or and not bars odd gap year made sold 1 0000 ( ) ; + - * < = x 12345 #";
+        for (String token : all.split(" ")) {
+            boolean stands = (" " + those + " ").contains(" " + token + " ");
+            if (stands && token.equals(";") && behind.contains("open")) {
+                due(read(behind + token), 1);
+                continue;
+            }
+            fault(behind + token, stands ? behind.length() + token.length() : behind.length());
+            // with a blank between, when it can be seen where the one ends and the other begins
+            fault(behind + " " + token, behind.length() + 1 + (stands ? token.length() : 0));
+        }
+    }
+
+    private static void places() {
+        String ones = "bars odd gap year made sold 1 0000", parts = ones + " - (", begins = parts + " not";
+        String compared = "or and + - *", follows = compared + " < =";
+        S.hold("the first TOKEN that can't stand there (the text's size, if it ends too early)", x -> {
+            stand(" ", "doubt");
+            stand("doubt 1;", "price");
+            stand("doubt 1;price 2;", "open");
+            for (String key : new String[] {"doubt ", "doubt 1;price ", "doubt 1;price 2;open "}) {
+                stand(key, begins);
+                stand(key + "odd ", follows + " ;");
+            }
+            // the last ; is the end of a TEXT that can stand, behind which nothing does
+            due(read(PLAIN), 1);
+            stand(PLAIN, "");
+            stand(PLAIN + " ", "");
+        });
+        S.hold("NOT: not NOT, or SUM, perhaps < or = and a SUM.", x -> {
+            for (String sign : new String[] {" or ", " and "}) {
+                stand("doubt 1" + sign, begins);
+                stand("doubt 1" + sign + "odd ", follows + " ;");
+            }
+            stand("doubt not ", begins);
+            stand("doubt not 1 ", follows + " ;");
+            for (String sign : new String[] {"<", "="}) {
+                stand("doubt 1" + sign, parts);
+                stand("doubt 1" + sign + "odd ", compared + " ;");
+                stand("doubt not 1" + sign + "odd ", compared + " ;");
+                stand("doubt (1" + sign + "odd ", compared + " )");
+                stand("doubt (1" + sign + "odd)", follows + " ;");
+            }
+        });
+        S.hold("SUM: TERM { + or - TERM }. TERM: ONE { * ONE }. ONE: a NUMBER, a NAME, - ONE, ( E ).", x -> {
+            for (String sign : new String[] {"+", "-", "*"}) {
+                stand("doubt 1" + sign, parts);
+                stand("doubt 1" + sign + "odd ", follows + " ;");
+                stand("doubt 1<2" + sign + "odd ", compared + " ;");
+            }
+            stand("doubt -", parts);
+            stand("doubt -odd ", follows + " ;");
+            stand("doubt (", begins);
+            stand("doubt (odd ", follows + " )");
+            stand("doubt (odd)", follows + " ;");
+            stand("doubt ((odd)", follows + " )");
+        });
+        S.hold("a ( , a not, a - ahead of a ONE while 5 of these are open", x -> {
+            for (String five : new String[] {"(((((", "-----", "not not not not not ", "not(not(-", "-(-(-", "((not not("}) {
+                stand("doubt " + five, ones);
+            }
+            for (String four : new String[] {"((((", "((not not "}) {
+                stand("doubt " + four, begins);
+            }
+            stand("doubt ----", parts);
+            stand("doubt (((((odd ", follows + " )");
+            stand("doubt (((((1<odd ", compared + " )");
+            stand("doubt (((((1 or ", ones);
+            stand("doubt (((((1+", ones);
+            stand("doubt (((((1)", follows + " )");
+            stand("doubt (((((1)+", parts);
+            stand("doubt (((((1)or ", begins);
         });
     }
 
